@@ -304,10 +304,8 @@ public final class DviPages {
     }
 
     void copy(Octets other) {
-      size = 0;
-      for (int i = 0; i < other.size; i++) {
-        add(other.at(i));
-      }
+      size = Math.max(0, Math.min(other.size, Math.min(other.row.length, row.length)));
+      System.arraycopy(other.row, 0, row, 0, size);
     }
 
     /** n bytes as one number: u1, u2, u3, s4, for only four of them reach an int's sign. */
@@ -668,14 +666,12 @@ public final class DviPages {
       place.put(turn, 1 - second);
     }
 
+    /** No move that may be told needs a fourth byte. */
     private static int bytesOf(int by) {
       if (by >= -(1 << 7) && by < 1 << 7) {
         return 1;
       }
-      if (by >= -(1 << 15) && by < 1 << 15) {
-        return 2;
-      }
-      return by >= -(1 << 23) && by < 1 << 23 ? 3 : 4;
+      return by >= -(1 << 15) && by < 1 << 15 ? 2 : 3;
     }
 
     int pileUp() {
@@ -736,12 +732,7 @@ public final class DviPages {
       }
       tail = file.size;
       addTail();
-      for (int number = 0; number < SIGNS; number++) {
-        int font = fonts.withNumber(number);
-        if (isDefined(font)) {
-          addDefinition(fonts, font);
-        }
-      }
+      addDefinitions(fonts);
       file.add(LAST);
       file.addNumber(tail, 4);
       file.add(FORM);
@@ -761,6 +752,26 @@ public final class DviPages {
       file.addNumber(place.greatestH, 4);
       file.addNumber(place.deepest, 2);
       file.addNumber(pages, 2);
+    }
+
+    private void addDefinitions(Fonts fonts) {
+      int font = definedBehind(fonts, -1);
+      for (int i = 0; i < FONTS_AT_MOST && font >= 0; i++) {
+        addDefinition(fonts, font);
+        font = definedBehind(fonts, fonts.numberOf(font));
+      }
+    }
+
+    /** Of the fonts that the file has, the one with the next higher number; -1 if none. */
+    private int definedBehind(Fonts fonts, int number) {
+      int next = -1;
+      for (int font = 0; font < fonts.size; font++) {
+        boolean isBehind = isDefined(font) && fonts.numberOf(font) > number;
+        if (isBehind && (next < 0 || fonts.numberOf(font) < fonts.numberOf(next))) {
+          next = font;
+        }
+      }
+      return next;
     }
 
     /** Goes by the bytes alone, so that it would see a pointer that was written wrongly. */
@@ -1064,10 +1075,10 @@ public final class DviPages {
     }
 
     private int obeyHead(Octets source, int at) {
-      int m = source.number(at + 10, 4);
-      magnification = m;
-      boolean isAsTold = source.at(at + 1) == FORM && hasScale(source, at + 2);
-      if (!isAsTold || m < 1 || m > MAGNIFICATION_AT_MOST) {
+      magnification = source.number(at + 10, 4);
+      boolean isAsTold = source.at(at + 1) == FORM && hasScale(source, at + 2)
+          && magnification >= 1 && magnification <= MAGNIFICATION_AT_MOST;
+      if (!isAsTold) {
         return FAULT_NUMBER;
       }
       state = BETWEEN_PAGES;

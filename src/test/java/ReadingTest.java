@@ -251,6 +251,7 @@ public final class ReadingTest {
       expectOpen("sign 255 by " + n, withFont().u1(127 + n).un(n, 255));
       expectOpen("sign 255 stays by " + n, withFont().u1(132 + n).un(n, 255));
       if (n > 1) {
+        expect("font 256 by " + n, onPage().define(3, 77).u1(234 + n).un(n, 256), 76, 3);
         expect("font 259 by " + n, onPage().define(3, 77).u1(234 + n).un(n, 259), 76, 3);
         expect("sign 256 by " + n, withFont().u1(127 + n).un(n, 256), 77, 4);
         expect("sign 256 stays by " + n, withFont().u1(132 + n).un(n, 256), 77, 4);

@@ -479,6 +479,54 @@ public final class WritingTest {
     DUE.is("end", x.end(), -4);
     DUE.is("font at hand", x.use(0), 1);
     fullFileFinishes();
+    roomToTheByte();
+  }
+
+  private static int[] call(DviPages x, int kind) {
+    switch (kind) {
+      case 0: return new int[] {17, x.use(3)};
+      case 1: return new int[] {18, x.use(64)};
+      case 2: return new int[] {1, x.use(63)};
+      case 3: return new int[] {2, x.use(255)};
+      case 4: return new int[] {1, x.set(127, false)};
+      case 5: return new int[] {2, x.set(128, false)};
+      case 6: return new int[] {2, x.set(1, true)};
+      case 7: return new int[] {9, x.rule(1, 1, true)};
+      case 8: return new int[] {1, x.move(false, 9)};
+      case 9: return new int[] {2, x.move(false, 1)};
+      case 10: return new int[] {3, x.move(true, 128)};
+      case 11: return new int[] {4, x.move(true, 32768)};
+      case 12: return new int[] {7, x.special(1, 5)};
+      case 13: return new int[] {1, x.pop() == 0 ? 1 : -4};
+      default: return new int[] {1, x.push() == 2 ? 1 : -4};
+    }
+  }
+
+  /** Each call in a file that has just room for it, or a byte less. */
+  private static void roomToTheByte() {
+    for (int kind = 0; kind < 15; kind++) {
+      for (int left = 0; left < 20; left++) {
+        DviPages x = page();
+        x.font(0, 1);
+        x.use(63);
+        x.use(255);
+        x.use(0);
+        x.move(false, 9);
+        x.push();
+        while (x.count(1) + 20 <= 6000 - left) {
+          x.special(1, 8);
+        }
+        while (x.count(1) < 6000 - left) {
+          x.set(1, false);
+        }
+        String before = Bytes.hex(Bytes.written(x));
+        int[] bytesAndAnswer = call(x, kind);
+        boolean fits = bytesAndAnswer[0] <= left;
+        DUE.is("call " + kind + " with " + left, bytesAndAnswer[1], fits ? 1 : -4);
+        DUE.is("bytes", x.count(1), 6000 - left + (fits ? bytesAndAnswer[0] : 0));
+        DUE.is("bytes before", Bytes.hex(Bytes.written(x)).substring(0, before.length()), before);
+      }
+    }
   }
 
   private static void fullFileFinishes() {
