@@ -69,7 +69,7 @@ final class Bytes {
   static String hex(byte[] bytes) {
     StringBuilder text = new StringBuilder();
     for (byte b : bytes) {
-      text.append(String.format("%02x", b & 255));
+      text.append(Character.forDigit(b >> 4 & 15, 16)).append(Character.forDigit(b & 15, 16));
     }
     return text.toString();
   }

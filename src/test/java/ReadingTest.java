@@ -7,6 +7,7 @@ public final class ReadingTest {
   private static final long NONE = -1000000000000L;
   private static final int FAR = 1 << 30;
   private static final Due DUE = new Due();
+  private static final Reader READER = new Reader(DUE);
 
   public static void main(String[] args) {
     loading();
@@ -32,42 +33,31 @@ public final class ReadingTest {
   }
 
   private static DviPages reader() {
-    DviPages x = new DviPages();
-    x.font(3, 77);
-    x.font(70, 78);
-    x.width(3, 65, 100);
-    x.width(3, 200, 1000000);
-    x.width(70, 65, -40);
-    return x;
+    return Reader.made();
   }
 
-  /** Head and a page: 60 bytes. */
   private static Bytes onPage() {
-    return new Bytes().head(1000).page(1, -1);
+    return Reader.onPage();
   }
 
-  /** Head and a page with font 3 at hand: 77 bytes. */
   private static Bytes withFont() {
-    return onPage().define(3, 77).u1(174);
+    return Reader.withFont();
+  }
+
+  private static Bytes tailed() {
+    return Reader.tailed();
   }
 
   private static DviPages expect(String what, Bytes bytes, int at, int fault) {
-    DviPages x = reader();
-    DUE.is(what + ": read", bytes.readBy(x), -1 - at);
-    DUE.is(what + ": fault", x.fault(), fault);
-    return x;
+    return READER.stops(what, bytes, at, fault);
   }
 
   private static DviPages expectWhole(String what, Bytes bytes, int pages) {
-    DviPages x = reader();
-    DUE.is(what + ": read", bytes.readBy(x), pages);
-    DUE.is(what + ": fault", x.fault(), 0);
-    return x;
+    return READER.whole(what, bytes, pages);
   }
 
-  /** A page that is all right so far: the next thing that is missed is at the length. */
   private static DviPages expectOpen(String what, Bytes bytes) {
-    return expect(what, bytes, bytes.size(), 2);
+    return READER.open(what, bytes);
   }
 
   private static void loading() {
@@ -383,10 +373,6 @@ public final class ReadingTest {
     expect("no rule", onPage().u1(132).s4(0, -FAR - 1), 60, 9);
     x = expectOpen("a rule that stays", onPage().u1(137).s4(Integer.MAX_VALUE, Integer.MAX_VALUE));
     DUE.is("stands", x.item(0, 5), Integer.MAX_VALUE);
-  }
-
-  private static Bytes tailed() {
-    return new Bytes().head(1000).tail(-1, 1000, 0, 0, 0, 0);
   }
 
   private static void endings() {
