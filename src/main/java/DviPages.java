@@ -648,7 +648,7 @@ public final class DviPages {
       }
       int command = upright ? UPRIGHT_Y : ALONG_W;
       if (isKnown) {
-        file.add(isFirst ? command : command + 5);
+        file.add(isFirst ? command : command + REMEMBERED_FORMS);
       } else {
         addNewMove(first, upright ? TURN_UPRIGHT : TURN_ALONG, command, by);
       }
@@ -660,7 +660,7 @@ public final class DviPages {
     private void addNewMove(int first, int turn, int command, int by) {
       int second = place.at(turn);
       int bytes = bytesOf(by);
-      file.add(command + 5 * second + bytes);
+      file.add(command + REMEMBERED_FORMS * second + bytes);
       file.addNumber(by, bytes);
       place.put(first + second, by);
       place.put(turn, 1 - second);
